@@ -394,6 +394,7 @@ public final class ShipSets {
                     }
                     found++;
                 }
+                // On to the end of the span or block that n is in, so that long ones cost one step.
                 n = Math.max(n, Math.max(last, blocks.lastAround(n)));
             }
             return NONE;
@@ -415,6 +416,7 @@ public final class ShipSets {
         private final int[] next = new int[BLOCKS];
         private int count = 0;
 
+        /** False when there are six, or one of them has a number in common with it. */
         boolean add(int first, int last) {
             if (count >= BLOCKS || firstFrom(first) <= last) {
                 return false;
@@ -460,6 +462,7 @@ public final class ShipSets {
         private final long[] reals = new long[MARKS];
         private int count = 0;
 
+        /** False when there are six, or one of both is not above that of the mark before. */
         boolean add(long second, long real) {
             if (count >= MARKS) {
                 return false;

@@ -12,6 +12,7 @@ public final class NumberTest {
         numberWrongly();
         lostSpans();
         lostAroundBlocks();
+        lostAroundSixBlocks();
         lostAtTheEnds();
         lostWrongly();
         Check.end("NumberTest");
@@ -161,6 +162,18 @@ public final class NumberTest {
         dueSpans(x, 0, new int[][] {{7, 9}, {11, 28}, {32, 39}});
         x.block(0, 35, 50);
         dueSpans(x, 0, new int[][] {{7, 9}, {11, 28}, {32, 34}});
+    }
+
+    private static void lostAroundSixBlocks() {
+        ShipSets x = Check.withTellers(1);
+        for (int i = 6; i >= 1; i--) {
+            x.block(0, 10 * i, 10 * i + 1);
+        }
+        x.tell(0, 5, 0, 0, 0, 0);
+        x.tell(0, 25, 0, 0, 0, 0);
+        x.tell(0, 70, 0, 0, 0, 0);
+        dueSpans(x, 0, new int[][] {{1, 4}, {6, 9}, {12, 19}, {22, 24}, {26, 29}, {32, 39}, {42, 49}, {52, 59},
+            {62, 69}});
     }
 
     private static void lostAtTheEnds() {
